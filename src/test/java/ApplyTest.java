@@ -1,203 +1,129 @@
 /** Promise 6: apply. */
 public final class ApplyTest {
-    private static final long MOST = 1L << 62;
-
     public static void main(String[] args) {
-        feeGoesToThePot();
-        burningNeedsWhatIsSpent();
-        refusalChangesNothing();
-        supplyStaysWithinItsBounds();
-        sumsNeverWrapAround();
-        spentOnesMayBeSpentByNobodyElse();
-        atMost2048OutputsAreMade();
+        Check.line("`long apply()`:");
+        Check.sentence("APPLIES the DRAFT: its FEE", ApplyTest::appliesTheDraft);
+        Check.sentence("-1 if it has none to spend and none to make", ApplyTest::minus1IfItHasNone);
+        Check.sentence("-2 if the FEE would be below 0", ApplyTest::minus2IfTheFeeWouldBeBelow0);
+        Check.sentence("or the SUPPLY below 0", ApplyTest::minus2IfTheSupplyWouldBeBelow0);
+        Check.sentence("or above 2^62", ApplyTest::minus2IfTheSupplyWouldBeAbove2To62);
+        Check.sentence("-3 if more than 2048 OUTPUTS would be made", ApplyTest::minus3IfMoreThan2048WouldBeMade);
+        Check.sentence("(The first of these.)", ApplyTest::theFirstOfThese);
         Check.end();
     }
 
-    private static OutputBook bookWith(int owner, long amount) {
-        OutputBook book = new OutputBook(4);
-        book.mint(amount);
-        book.make(owner, amount, 0);
-        book.apply();
-        return book;
+    private static void appliesTheDraft() {
+        Book book = Book.of(1, 100).looks(100, 0, 0, 1, 1, 0, 0, 0, 0, 1);
+        book.spend(0, true).make(2, 60, 1, true).make(1, 30, 2, true).apply(10);
+        book.looks(100, 10, 0, 3, 2, 0, 0, 0, 0, 2).row(0, 1, 0, 0, 0, 100, 0);
+        book.row(1, 2, 1, 0, -1, 60, 1).row(2, 1, 1, 0, -1, 30, 2);
+        book.close(1).spend(2, true).mint(5).apply(35).looks(105, 45, 1, 3, 1, 1, 0, 0, 0, 3).row(2, 1, 0, 0, 1, 30, 2);
+        book.mint(3).make(0, 3, 0, true).apply(0).looks(108, 45, 1, 4, 2, 1, 0, 0, 0, 4).row(3, 0, 1, 1, -1, 3, 0);
+        book.spend(3, true).spend(1, true).make(9, 1, 0, true).mint(-62).apply(0).looks(46, 45, 1, 5, 1, 1, 0, 0, 0, 5);
+        sixteenForSixteen();
     }
 
-    private static void state(String name, OutputBook book, long... due) {
-        for (int which = 0; which < due.length; which++) {
-            Check.due(name + ": look(" + which + ")", book.look(which), due[which]);
+    private static void sixteenForSixteen() {
+        Book book = Book.of(1, 1, 2, 3, 4, 5, 6, 7, 8, 9, 10, 11, 12, 13, 14, 15, 16).gather(1, 136, 16);
+        for (int i = 0; i < 16; i++) {
+            book.make(2, 16 - i, i, true);
+        }
+        book.draft(16, 16, 0).apply(0).looks(136, 0, 0, 32, 16, 0, 0, 0, 0, 2).count(1, 0).balance(2, 136);
+        for (int i = 0; i < 16; i++) {
+            book.amount(16 + i, 16 - i).output(i, 1, 0);
         }
     }
 
-    private static void feeGoesToThePot() {
-        OutputBook book = bookWith(1, 100);
-        state("first", book, 100, 0, 0, 1, 1, 0, 0, 0, 0, 1);
-        book.spend(0);
-        book.make(2, 60, 1);
-        book.make(1, 30, 2);
-        Check.due("100 to 60 and 30: apply()", book.apply(), 10);
-        state("second", book, 100, 10, 0, 3, 2, 0, 0, 0, 0, 2);
-        Check.due("in their order: amount(1)", book.amount(1), 60);
-        Check.due("in their order: amount(2)", book.amount(2), 30);
-        book.spend(2);
-        book.mint(5);
-        Check.due("none to make: apply()", book.apply(), 35);
-        state("third", book, 105, 45, 0, 3, 1, 0, 0, 0, 0, 3);
-        book.mint(3);
-        book.make(0, 3, 0);
-        Check.due("none to spend: apply()", book.apply(), 0);
-        state("fourth", book, 108, 45, 0, 4, 2, 0, 0, 0, 0, 4);
+    private static void minus1IfItHasNone() {
+        new Book(4).apply(-1).looks(0, 0, 0, 0, 0, 0, 0, 0, 0, 0);
+        Book book = Book.of(1, 10).apply(-1).close(1).apply(-1);
+        for (long mint : Edges.LONGS) {
+            book.mint(mint).apply(-1).look(8, mint);
+        }
+        book.mint(0).spend(0, true).apply(10).apply(-1).make(1, 1, 0, true).mint(1).apply(0).apply(-1);
+        book.spend(1, true).drop().apply(-1).make(1, 1, 0, true).drop().apply(-1);
+        book.make(1, 1, 0, true).undo(0, 1).apply(-1);
     }
 
-    private static void burningNeedsWhatIsSpent() {
-        OutputBook book = bookWith(1, 100);
-        book.spend(0);
-        book.make(1, 50, 0);
-        book.mint(-51);
-        Check.due("more burnt than there is: apply()", book.apply(), -2);
-        book.mint(-50);
-        Check.due("just what there is: apply()", book.apply(), 0);
-        state("burnt", book, 50, 0, 0, 2, 1, 0, 0, 0, 0, 2);
-        book.spend(1);
-        book.apply();
-        state("all in the pot", book, 50, 50, 0, 2, 0, 0, 0, 0, 0, 3);
-        book.mint(1);
-        book.make(1, 1, 0);
-        book.apply();
-        book.spend(2);
-        book.mint(-2);
-        Check.due("the pot is not burnt: apply()", book.apply(), -2);
-        book.mint(-1);
-        Check.due("burnt to nothing: apply()", book.apply(), 0);
-        state("the pot is left", book, 50, 50, 0, 3, 0, 0, 0, 0, 0, 5);
+    private static void minus2IfTheFeeWouldBeBelow0() {
+        new Book(4).make(1, 1, 0, true).apply(-2).mint(1).apply(0);
+        new Book(4).make(1, 2, 0, true).mint(1).apply(-2).draft(0, 1, 1).mint(2).apply(0);
+        Book.of(1, 10).spend(0, true).mint(-11).apply(-2).mint(-10).apply(0);
+        Book.of(1, 10).spend(0, true).make(1, 11, 0, true).apply(-2).looks(10, 0, 0, 1, 1, 0, 1, 1, 0, 1)
+                .mint(1).apply(0);
+        Book.of(1, 10).spend(0, true).make(1, 9, 0, true).mint(-2).apply(-2).mint(-1).apply(0);
+        // Each of them is covered, but not all together.
+        Book.of(1, 10).spend(0, true).make(1, 6, 0, true).make(1, 5, 0, true).apply(-2);
+        // One that is LIVE but not to be spent covers nothing, and neither does the POT.
+        Book.of(1, 10, 90).spend(0, true).make(1, 11, 0, true).apply(-2);
+        Book.of(1, 90, 10).spend(0, true).apply(90).spend(1, true).make(1, 11, 0, true).apply(-2);
+        new Book(4).make(1, Long.MAX_VALUE, 0, true).apply(-2).mint(Edges.MOST).apply(-2);
+        new Book(4).make(1, Edges.MOST, 0, true).mint(Edges.MOST - 1).apply(-2).mint(Edges.MOST).apply(0);
+        Book wraps = Book.of(1, Edges.MOST).spend(0, true);
+        for (int i = 0; i < 16; i++) {
+            wraps.make(1, Edges.MOST, i, true);
+        }
+        wraps.apply(-2).looks(Edges.MOST, 0, 0, 1, 1, 0, 1, 16, 0, 1);
     }
 
-    private static void refusalChangesNothing() {
-        OutputBook book = bookWith(1, 100);
-        book.mint(7);
-        Check.due("a mint alone: apply()", book.apply(), -1);
-        state("a mint alone", book, 100, 0, 0, 1, 1, 0, 0, 0, 7, 1);
-        book.spend(0);
-        book.make(2, 108, 0);
-        Check.due("one too much: apply()", book.apply(), -2);
-        state("one too much", book, 100, 0, 0, 1, 1, 0, 1, 1, 7, 1);
-        book.mint(MOST);
-        Check.due("too much of a mint: apply()", book.apply(), -2);
-        state("too much of a mint", book, 100, 0, 0, 1, 1, 0, 1, 1, MOST, 1);
-        book.mint(8);
-        Check.due("the same draft, covered: apply()", book.apply(), 0);
-        state("covered", book, 108, 0, 0, 2, 1, 0, 0, 0, 0, 2);
-        Check.due("emptied: apply()", book.apply(), -1);
+    private static void minus2IfTheSupplyWouldBeBelow0() {
+        new Book(4).make(1, 1, 0, true).mint(-1).apply(-2).mint(Long.MIN_VALUE).apply(-2);
+        Book book = Book.of(1, 5).spend(0, true);
+        for (long mint : new long[] {-6, -7, -Edges.MOST, Long.MIN_VALUE + 1, Long.MIN_VALUE}) {
+            book.mint(mint).apply(-2).looks(5, 0, 0, 1, 1, 0, 1, 0, mint, 1);
+        }
+        book.mint(-5).apply(0).looks(0, 0, 0, 1, 0, 0, 0, 0, 0, 2);
+        Book.of(1, 5).spend(0, true).mint(-4).apply(1).looks(1, 1);
+        Book full = Book.of(1, Edges.MOST).spend(0, true).mint(-Edges.MOST - 1).apply(-2);
+        full.mint(Long.MIN_VALUE).apply(-2).mint(-Edges.MOST).apply(0).looks(0, 0);
     }
 
-    private static void supplyStaysWithinItsBounds() {
-        OutputBook book = new OutputBook(4);
-        book.make(1, 1, 0);
-        book.mint(MOST + 1);
-        Check.due("2^62 + 1: apply()", book.apply(), -2);
-        book.mint(MOST);
-        Check.due("2^62: apply()", book.apply(), MOST - 1);
-        state("full", book, MOST, MOST - 1, 0, 1, 1, 0, 0, 0, 0, 1);
-        book.spend(0);
-        book.mint(1);
-        Check.due("full and 1: apply()", book.apply(), -2);
-        book.mint(-1);
-        Check.due("full less 1: apply()", book.apply(), 0);
-        state("full less 1", book, MOST - 1, MOST - 1, 0, 1, 0, 0, 0, 0, 0, 2);
-        book.mint(2);
-        book.make(1, 2, 0);
-        Check.due("2 where 1 is free: apply()", book.apply(), -2);
-        book.drop();
-        book.mint(1);
-        book.make(1, 1, 0);
-        Check.due("1 where 1 is free: apply()", book.apply(), 0);
-
-        OutputBook low = bookWith(1, 5);
-        low.spend(0);
-        low.mint(-6);
-        Check.due("supply below 0: apply()", low.apply(), -2);
-        low.mint(-5);
-        Check.due("supply 0: apply()", low.apply(), 0);
-        state("supply 0", low, 0, 0, 0, 1, 0, 0, 0, 0, 0, 2);
+    private static void minus2IfTheSupplyWouldBeAbove2To62() {
+        Book book = new Book(4).make(1, 1, 0, true);
+        for (long mint : new long[] {Edges.MOST + 1, Edges.MOST + 2, Long.MAX_VALUE - 1, Long.MAX_VALUE}) {
+            book.mint(mint).apply(-2).looks(0, 0, 0, 0, 0, 0, 0, 1, mint, 0);
+        }
+        book.mint(Edges.MOST).apply(Edges.MOST - 1).looks(Edges.MOST, Edges.MOST - 1);
+        book.make(1, 1, 0, true).mint(1).apply(-2).mint(Edges.MOST).apply(-2).mint(Long.MAX_VALUE).apply(-2);
+        book.drop().spend(0, true).mint(1).apply(-2).mint(-1).apply(0).look(0, Edges.MOST - 1);
+        book.make(1, 1, 0, true).mint(2).apply(-2).mint(1).apply(0).look(0, Edges.MOST);
+        new Book(4).make(1, 1, 0, true).mint(Edges.MOST - 1).apply(Edges.MOST - 2).look(0, Edges.MOST - 1);
+        // What was undone is no more in the SUPPLY.
+        Book.of(1, Edges.MOST).undo(0, 0).minted(1, Edges.MOST).look(0, Edges.MOST);
     }
 
-    private static void sumsNeverWrapAround() {
-        OutputBook book = bookWith(1, MOST);
-        book.spend(0);
-        for (int i = 0; i < 4; i++) {
-            book.make(2, MOST, 0);
-        }
-        Check.due("4 times 2^62 wraps to 0: apply()", book.apply(), -2);
-        book.drop();
-        book.spend(0);
-        book.make(2, Long.MAX_VALUE, 0);
-        book.make(2, Long.MAX_VALUE, 0);
-        book.make(2, 2, 0);
-        Check.due("twice the greatest and 2 wraps to 0: apply()", book.apply(), -2);
-        book.drop();
-        book.spend(0);
-        long[] mints = {Long.MAX_VALUE, Long.MIN_VALUE, Long.MIN_VALUE + 1, MOST, -MOST - 1};
-        for (long mint : mints) {
-            book.mint(mint);
-            Check.due("mint(" + mint + ") over 2^62: apply()", book.apply(), -2);
-        }
-        book.mint(-MOST);
-        Check.due("all burnt: apply()", book.apply(), 0);
-        state("all burnt", book, 0, 0, 0, 1, 0, 0, 0, 0, 0, 2);
-        book.make(2, Long.MAX_VALUE, 0);
-        book.make(2, 1, 0);
-        for (long mint : mints) {
-            book.mint(mint);
-            Check.due("mint(" + mint + ") over 0: apply()", book.apply(), -2);
-        }
+    private static void minus3IfMoreThan2048WouldBeMade() {
+        fullBut(2, 3).apply(-3).looks(2046, 0, 0, 2046, 2046, 0, 0, 3, 3, 128);
+        fullBut(2, 2).apply(0).looks(2048, 0, 0, 2048, 2048).row(2047, 1, 1, 0, -1, 1, 1);
+        fullBut(2, 1).apply(0).look(3, 2047);
+        fullBut(0, 1).apply(-3).look(3, 2048);
+        fullBut(0, 16).apply(-3).look(3, 2048);
+        // Spending makes no room, but none are made by it either.
+        fullBut(0, 0).spend(2047, true).spend(0, true).apply(2).make(1, 1, 0, true).mint(1).apply(-3);
+        fullBut(1, 1).spend(5, true).apply(1).look(3, 2048);
     }
 
-    private static void spentOnesMayBeSpentByNobodyElse() {
-        OutputBook book = bookWith(1, 9);
-        book.spend(0);
-        book.make(1, 9, 5);
-        book.apply();
-        Check.due("spent: output(0, 1)", book.output(0, 1), 0);
-        Check.due("made: output(1, 1)", book.output(1, 1), 1);
-        Check.due("spent: spend(0)", book.spend(0), false);
-        Check.due("made: balance(1)", book.balance(1), 9);
+    private static void theFirstOfThese() {
+        fullBut(0, 0).apply(-1).mint(-1).apply(-1).mint(Long.MAX_VALUE).apply(-1);
+        fullBut(0, 1).mint(0).apply(-2).mint(1).apply(-3);
+        fullBut(0, 1).mint(Edges.MOST).apply(-2).mint(Edges.MOST - 2048).apply(-3);
+        fullBut(0, 1).spend(0, true).mint(-1).apply(-2).mint(0).apply(-3);
+        new Book(4).mint(Long.MIN_VALUE).apply(-1).mint(Long.MAX_VALUE).apply(-1);
     }
 
-    /**
-     * This takes more than the 512 calls that the document answers for, but without the bound a
-     * book's rows would be left, so the project holds to it.
-     */
-    private static void atMost2048OutputsAreMade() {
-        OutputBook book = new OutputBook(4);
-        book.mint(10000);
-        book.make(1, 1, 0);
-        book.make(1, 1, 0);
-        book.apply();
-        for (int made = 2; made + 15 <= 2048; made += 15) {
-            book.mint(15);
-            for (int i = 0; i < 15; i++) {
-                book.make(1, 1, 0);
-            }
-            Check.due("on the way: apply()", book.apply(), 0);
+    /** A book where so many can be made yet, with some drafted and just covered. */
+    private static Book fullBut(int room, int drafted) {
+        Book book = Book.beyondItsCalls(4);
+        for (int i = 0; i < 128; i++) {
+            draft(book, i == 0 ? 16 - room : 16).apply(0);
         }
-        Check.due("on the way: look(3)", book.look(3), 2042);
-        for (int i = 0; i < 7; i++) {
-            book.make(1, 1, 0);
+        return draft(book, drafted);
+    }
+
+    private static Book draft(Book book, int some) {
+        for (int i = 0; i < some; i++) {
+            book.make(1, 1, i, true);
         }
-        Check.due("2049 and not covered: apply()", book.apply(), -2);
-        book.mint(7);
-        Check.due("2049: apply()", book.apply(), -3);
-        Check.due("2049: look(7)", book.look(7), 7);
-        book.drop();
-        for (int i = 0; i < 6; i++) {
-            book.make(1, 1, 0);
-        }
-        book.mint(6);
-        Check.due("2048: apply()", book.apply(), 0);
-        Check.due("2048: look(3)", book.look(3), 2048);
-        book.spend(0);
-        Check.due("none to make: apply()", book.apply(), 1);
-        Check.due("none to make: spend(2047)", book.spend(2047), true);
-        Check.due("none to make: spend(2048)", book.spend(2048), false);
-        book.undo(0);
-        Check.due("undone: look(3)", book.look(3), 0);
+        return book.mint(some);
     }
 }

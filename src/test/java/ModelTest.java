@@ -10,7 +10,7 @@ import java.util.List;
 public final class ModelTest {
     private static final int RUNS = 3000;
     private static final int CALLS = 512;
-    private static final long MOST = 1L << 62;
+    private static final long MOST = Edges.MOST;
 
     public static void main(String[] args) {
         for (int run = 0; run < RUNS && Check.wrongOnes() < 20; run++) {
@@ -266,7 +266,7 @@ public final class ModelTest {
             } else if (kind < 32) {
                 int owner = owner();
                 long amount = amount();
-                long tag = below(1000) - 500L;
+                long tag = below(10) == 0 ? Edges.LONGS[below(Edges.LONGS.length)] : below(1000) - 500L;
                 due("make(" + owner + ", " + amount + ", " + tag + ")",
                         book.make(owner, amount, tag) ? 1 : 0, model.make(owner, amount, tag) ? 1 : 0);
             } else if (kind < 40) {
@@ -281,7 +281,7 @@ public final class ModelTest {
             } else if (kind < 56) {
                 due("close()", book.close(), model.close());
             } else if (kind < 58) {
-                int n = below(8) == 0 ? below(70) - 2 : below(4) - (below(9) == 0 ? 1 : 0);
+                int n = below(20) == 0 ? anyInt() : below(8) == 0 ? below(70) - 2 : below(4) - (below(9) == 0 ? 1 : 0);
                 due("undo(" + n + ")", book.undo(n), model.undo(n));
             } else {
                 int owner = owner();
@@ -294,7 +294,7 @@ public final class ModelTest {
             int number = number();
             int owner = owner();
             if (kind < 74) {
-                int what = below(6) - 1;
+                int what = below(20) == 0 ? anyInt() : below(6) - 1;
                 due("output(" + number + ", " + what + ")", book.output(number, what), model.output(number, what));
             } else if (kind < 76) {
                 due("amount(" + number + ")", book.amount(number), model.amount(number));
@@ -305,27 +305,29 @@ public final class ModelTest {
             } else if (kind < 84) {
                 due("count(" + owner + ")", book.count(owner), model.now.liveOf(owner).size());
             } else if (kind < 88) {
-                int i = below(12) - 1;
+                int i = below(20) == 0 ? anyInt() : below(12) - 1;
                 due("nth(" + owner + ", " + i + ")", book.nth(owner, i), model.nth(owner, i));
             } else {
-                int which = below(12) - 1;
+                int which = below(20) == 0 ? anyInt() : below(12) - 1;
                 due("look(" + which + ")", book.look(which), model.look(which));
             }
         }
 
+        private int anyInt() {
+            return Edges.INTS[below(Edges.INTS.length)];
+        }
+
         private int number() {
-            return below(model.now.outputs.size() + 3) - 1;
+            return below(30) == 0 ? anyInt() : below(model.now.outputs.size() + 3) - 1;
         }
 
         private int owner() {
-            int[] edges = {-1, 0, 255, 256};
-            return below(20) == 0 ? edges[below(4)] : below(owners);
+            return below(20) == 0 ? anyInt() : below(owners);
         }
 
         private long amount() {
-            long[] edges = {0, -1, Long.MIN_VALUE, Long.MAX_VALUE, MOST, MOST / 2, MOST - 1, MOST + 1};
             if (below(calm ? 100 : 12) == 0) {
-                return edges[below(edges.length)];
+                return below(8) == 0 ? MOST / 2 : Edges.LONGS[below(Edges.LONGS.length)];
             }
             return 1 + below(12);
         }
@@ -333,7 +335,9 @@ public final class ModelTest {
         /** Mostly just what makes the draft's fee something near 0, so that drafts are applied. */
         private long mint() {
             long supply = model.now.supply.longValueExact();
-            long[] edges = {Long.MIN_VALUE, Long.MAX_VALUE, MOST, -MOST, MOST - supply, MOST - supply + 1, -supply, -supply - 1};
+            long[] edges = {
+                Long.MIN_VALUE, Long.MAX_VALUE, MOST, -MOST, MOST - supply, MOST - supply + 1, -supply, -supply - 1,
+            };
             if (below(calm ? 30 : 4) == 0) {
                 return edges[below(edges.length)];
             }

@@ -1,65 +1,55 @@
 /** Promise 1: a new object. */
 public final class NewBookTest {
     public static void main(String[] args) {
-        nothingIsThere();
-        depthCountsAsTheNearest(Integer.MIN_VALUE, 1);
-        depthCountsAsTheNearest(-1, 1);
-        depthCountsAsTheNearest(0, 1);
-        depthCountsAsTheNearest(1, 1);
-        depthCountsAsTheNearest(2, 2);
-        depthCountsAsTheNearest(63, 63);
-        depthCountsAsTheNearest(64, 64);
-        depthCountsAsTheNearest(65, 64);
-        depthCountsAsTheNearest(Integer.MAX_VALUE, 64);
-        booksShareNothing();
-        Check.due("NONE", OutputBook.NONE, -1);
+        Check.line("`OutputBook(int depth)`:");
+        Check.sentence("Nothing is there", NewBookTest::nothingIsThere);
+        Check.sentence("DEPTH is 1 .. 64", NewBookTest::depthIs1To64);
+        Check.sentence("(others count as the nearest of these)", NewBookTest::othersCountAsTheNearest);
         Check.end();
     }
 
     private static void nothingIsThere() {
-        OutputBook book = new OutputBook(3);
-        for (int which = 0; which <= 9; which++) {
-            Check.due("new: look(" + which + ")", book.look(which), 0);
+        for (int depth : Edges.INTS) {
+            Book book = new Book(depth).looks(0, 0, 0, 0, 0, 0, 0, 0, 0, 0).noRow(0).spend(0, false);
+            for (int owner : new int[] {0, 1, 254, 255}) {
+                book.owns(owner, 0).gather(owner, 1, -1);
+            }
+            book.apply(-1).undo(1, -1).undo(0, 0);
         }
-        for (int owner = 0; owner < 256; owner += 51) {
-            Check.due("new: balance(" + owner + ")", book.balance(owner), 0);
-            Check.due("new: count(" + owner + ")", book.count(owner), 0);
-            Check.due("new: nth(" + owner + ", 0)", book.nth(owner, 0), -1);
-            Check.due("new: gather(" + owner + ", 1)", book.gather(owner, 1), -1);
-        }
-        for (int what = 0; what <= 3; what++) {
-            Check.due("new: output(0, " + what + ")", book.output(0, what), -1);
-        }
-        Check.due("new: amount(0)", book.amount(0), 0);
-        Check.due("new: tag(0)", book.tag(0), 0);
-        Check.due("new: spend(0)", book.spend(0), false);
-        Check.due("new: apply()", book.apply(), -1);
-        Check.due("new: undo(0)", book.undo(0), 0);
-        Check.due("new: undo(1)", book.undo(1), -1);
+        anotherBookIsAnother();
     }
 
-    private static void depthCountsAsTheNearest(int depth, int nearest) {
-        String name = "depth " + depth + ": ";
-        OutputBook book = new OutputBook(depth);
-        for (int closed = 1; closed <= 70; closed++) {
-            book.close();
-            Check.due(name + "look(5)", book.look(5), Math.min(closed, nearest));
-        }
-        Check.due(name + "undo(" + (nearest + 1) + ")", book.undo(nearest + 1), -1);
-        Check.due(name + "undo(" + nearest + ")", book.undo(nearest), 70 - nearest);
+    private static void anotherBookIsAnother() {
+        Book one = new Book(4);
+        Book other = new Book(4);
+        one.minted(1, 10).close(1).spend(0, true).make(1, 10, 0, true).mint(3);
+        other.looks(0, 0, 0, 0, 0, 0, 0, 0, 0, 0).noRow(0).owns(1, 0);
+        other.minted(2, 20);
+        one.looks(10, 0, 1, 1, 1, 1, 1, 1, 3, 1).row(0, 1, 1, 0, -1, 10, 0);
     }
 
-    private static void booksShareNothing() {
-        OutputBook one = new OutputBook(2);
-        OutputBook other = new OutputBook(2);
-        one.mint(9);
-        one.make(1, 4, 0);
-        one.apply();
-        one.close();
-        one.mint(3);
-        for (int which = 0; which <= 9; which++) {
-            Check.due("another book: look(" + which + ")", other.look(which), 0);
+    private static void depthIs1To64() {
+        for (int depth = 1; depth <= 64; depth++) {
+            countsAs(depth, depth);
         }
-        Check.due("another book: balance(1)", other.balance(1), 0);
+    }
+
+    private static void othersCountAsTheNearest() {
+        for (int depth : new int[] {Integer.MIN_VALUE, Integer.MIN_VALUE + 1, -65536, -64, -1, 0}) {
+            countsAs(depth, 1);
+        }
+        for (int depth : new int[] {65, 66, 128, 257, 65537, Integer.MAX_VALUE - 1, Integer.MAX_VALUE}) {
+            countsAs(depth, 64);
+        }
+    }
+
+    /** So many blocks can be taken back, and each with what it did. */
+    private static void countsAs(int depth, int due) {
+        Book book = new Book(depth);
+        for (int height = 0; height < 66; height++) {
+            book.mint(2).make(1, 1, 0, true).apply(1).close(height + 1);
+        }
+        book.look(5, due).undo(due + 1, -1).undo(due, 66 - due).look(5, 0).undo(1, -1);
+        book.looks(2 * (66 - due), 66 - due, 66 - due, 66 - due, 66 - due);
     }
 }
